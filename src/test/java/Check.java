@@ -1,4 +1,7 @@
 import java.nio.charset.StandardCharsets;
+import java.util.function.Consumer;
+import java.util.function.Supplier;
+import java.util.function.ToIntFunction;
 
 /** Counts the answers that are not the ones that are due, and tells them. */
 final class Check {
@@ -42,6 +45,30 @@ final class Check {
 
     static void dueIllegal(String call, Runnable run) {
         dueThrow(call, IllegalArgumentException.class, run);
+    }
+
+    /** As the terms say of every method: one that throws changes nothing. Each call gets an object of its own. */
+    static void dueThrowAndNoChange(String call, Class<? extends RuntimeException> want,
+            Supplier<HomeworkBarter> make, Consumer<HomeworkBarter> run) {
+        HomeworkBarter x = make.get();
+        int undoable = x.count(12);
+        String before = state(x) + refusals(x);
+        dueThrow(call, want, () -> run.accept(x));
+        due("state and refusals after " + call, before, state(x) + refusals(x));
+        due("acts that can be undone after " + call, undoable, x.count(12));
+    }
+
+    /** A refused act answers minus the reason, and changes nothing but the counter of its reason. */
+    static void dueRefusal(String call, int reason, Supplier<HomeworkBarter> make,
+            ToIntFunction<HomeworkBarter> run) {
+        HomeworkBarter x = make.get();
+        int undoable = x.count(12);
+        int refused = x.refusals(reason);
+        String before = state(x);
+        due(call, -reason, run.applyAsInt(x));
+        due("state after " + call, before, state(x));
+        due("refusals after " + call, refused + 1, x.refusals(reason));
+        due("acts that can be undone after " + call, undoable, x.count(12));
     }
 
     static void tell(String message) {
