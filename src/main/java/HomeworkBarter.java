@@ -1285,6 +1285,10 @@ public final class HomeworkBarter {
             return subject == SUMS ? dueSums : dueVerses;
         }
 
+        private static int otherSubject(int subject) {
+            return subject == SUMS ? VERSES : SUMS;
+        }
+
         int piecesOf(int subject) {
             int sum = 0;
             for (int i = 0; i < size; i++) sum += pupils[i].satchel(subject).size;
@@ -1394,7 +1398,7 @@ public final class HomeworkBarter {
             if (pupil == other) return SAME;
             int reason = reasonAgainstGiving(pupil, other, subject, pieces);
             if (reason != 0) return reason;
-            return debts.canGrow(other, pupil, VERSES - subject, pieces) ? 0 : TOO_DEEP_IN_DEBT;
+            return debts.canGrow(other, pupil, otherSubject(subject), pieces) ? 0 : TOO_DEEP_IN_DEBT;
         }
 
         int reasonAgainstPaying(int pupil, int other, int subject, int pieces) {
@@ -1437,7 +1441,7 @@ public final class HomeworkBarter {
             pupils[pupil].satchel(subject).giveEldest(pupils[other].satchel(subject), pieces);
             tallies[LOANS]++;
             letSpiesSee(pupil, other);
-            return debts.growOne(other, pupil, VERSES - subject, pieces);
+            return debts.growOne(other, pupil, otherSubject(subject), pieces);
         }
 
         int payPieces(int pupil, int other, int subject, int pieces) {

@@ -127,6 +127,11 @@ public final class FaceTest {
             if (lines[i].matches(" {4}( {4})?\\}")) longest = Math.max(longest, i - begin + 1);
         }
         Check.due("the longest method has at most sixty lines", true, longest <= 60);
+        for (String line : lines) {
+            boolean isMade = line.matches(".*\\bnew\\b.*") && !line.contains("throw new");
+            boolean isInConstructor = line.contains("final ") || line.matches(" +(for \\(.*\\) )?\\w+(\\[\\w+\\])? = new .*");
+            if (isMade && !isInConstructor) Check.tell("a call makes an object: " + line);
+        }
         for (char sign : source.toCharArray()) {
             if (sign > 126 || sign < 32 && sign != '\n') Check.tell("the source holds the sign " + (int) sign);
         }

@@ -175,7 +175,7 @@ public final class RandomRunsTest {
     }
 
     private void loadSetup() throws ReflectiveOperationException {
-        int most = random.nextInt(4) == 0 ? 13 : 2 + random.nextInt(7);
+        int most = random.nextInt(4) == 0 ? 10 + random.nextInt(4) : 2 + random.nextInt(7);
         StringBuilder text = new StringBuilder("school");
         boolean isEasy = random.nextBoolean();
         number(text, isEasy ? 60 : 10 + random.nextInt(51));

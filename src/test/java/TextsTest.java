@@ -9,6 +9,8 @@ public final class TextsTest {
         promise2();
         promise3();
         promise4();
+        promise4LeavesNothing();
+        promise4TwelvePupils();
         promise4Ranges();
         promise4Order();
         promise5();
@@ -110,6 +112,49 @@ public final class TextsTest {
         Check.due("state behind it", before, Check.state(y));
         Check.due("the text behind it", 4, y.appendText(0));
         Check.due("undo behind it", 0, y.undo());
+    }
+
+    /** Nothing of what was before, or of what would have been, is left in a school that load brings. */
+    private static void promise4LeavesNothing() {
+        String watched = "school 60 1 1 0;pupil 0 0 9 9;pupil 0 1 9 9;pupil 1 1 9 9 spy;pupil 5 5 9 9;";
+        String fresh = Check.state(Check.school(watched));
+        HomeworkBarter x = Check.school(watched, "work 0 sums 9;work 3 verses 9;lend 3 2 verses 2;swap 0 1 2 0;"
+            + "lend 0 2 sums 3;swap 0 1 0 0;swap 0 1 0 0;swap 0 1 0 0;");
+        x.ifPassed(1, 0);
+        Check.due("load behind what would be", 4, Check.load(x, watched));
+        Check.due("state", fresh, Check.state(x));
+        Check.play(x, "swap 0 1 0 0;swap 0 1 0 0;swap 0 1 0 0;swap 0 1 0 0;swap 0 1 0 0;swap 0 1 0 0;pass 1;");
+        Check.due("DETENTION", 2, x.pupil(0, 8));
+        x.ifPassed(0, 0);
+        Check.due("load behind a detention", 4, Check.load(x, watched));
+        Check.due("state", fresh, Check.state(x));
+        Check.load(x, "school 60 1 1 0;pupil 5 5 9 9;pupil 4 4 9 9;pupil 6 4 9 9;");
+        Check.due("state behind a load with an error", fresh, Check.state(x));
+    }
+
+    /** A school of twelve is a school like any other. */
+    private static void promise4TwelvePupils() {
+        String setup = "school 20 3 1 1;";
+        for (int i = 0; i < 12; i++) setup += "pupil " + i / 6 + " " + i % 6 + " 9 9" + (i == 11 ? " spy;" : ";");
+        HomeworkBarter x = Check.school(setup, "work 11 sums 3;work 11 verses 3;lend 11 10 sums 2;lend 10 11 sums 1;");
+        Check.due("pupils", 12, x.count(0));
+        Check.due("sums", 3, x.count(6));
+        Check.due("spies", 1, x.count(11));
+        Check.due("detained", 0, x.count(10));
+        Check.due("gap", 0, x.gap());
+        Check.due("bench(1, 5)", 11, x.bench(1, 5));
+        Check.due("ranked(0, 11)", 11, x.ranked(0, 11));
+        Check.due("ranked(0, 12)", -1, x.ranked(0, 12));
+        Check.due("most(4)", 11, x.most(4));
+        Check.due("nearTo(11, 2)", 10, x.nearTo(11, 2));
+        Check.due("nearTo(11, 3)", -1, x.nearTo(11, 3));
+        Check.due("swap(9, 10, 0, 0) that 11 sees", 1, x.swap(9, 10, 0, 0));
+        Check.due("witness(9, 0)", 11, x.witness(9, 0));
+        x.write(10);
+        Check.due("output", "l/ lv2", Check.output(x));
+        Check.due("pass(10)", 0, x.pass(10));
+        Check.due("play with the pupil 11", 1, Check.play(x, "move 11 5 5;"));
+        Check.dueOutOfBounds("pupil(12, 0)", () -> x.pupil(12, 0));
     }
 
     /** The least and the greatest number of each place, and those next to them. */
