@@ -47,28 +47,26 @@ final class Check {
         dueThrow(call, IllegalArgumentException.class, run);
     }
 
-    /** As the terms say of every method: one that throws changes nothing. Each call gets an object of its own. */
+    /** As the terms say of every method: one that throws changes nothing. */
     static void dueThrowAndNoChange(String call, Class<? extends RuntimeException> want,
             Supplier<HomeworkBarter> make, Consumer<HomeworkBarter> run) {
-        HomeworkBarter x = make.get();
-        int undoable = x.count(12);
-        String before = state(x) + refusals(x);
-        dueThrow(call, want, () -> run.accept(x));
-        due("state and refusals after " + call, before, state(x) + refusals(x));
-        due("acts that can be undone after " + call, undoable, x.count(12));
+        Parts.dueSame(call, make, x -> dueThrow(call, want, () -> run.accept(x)));
     }
 
     /** A refused act answers minus the reason, and changes nothing but the counter of its reason. */
     static void dueRefusal(String call, int reason, Supplier<HomeworkBarter> make,
             ToIntFunction<HomeworkBarter> run) {
-        HomeworkBarter x = make.get();
-        int undoable = x.count(12);
-        int refused = x.refusals(reason);
-        String before = state(x);
-        due(call, -reason, run.applyAsInt(x));
-        due("state after " + call, before, state(x));
-        due("refusals after " + call, refused + 1, x.refusals(reason));
-        due("acts that can be undone after " + call, undoable, x.count(12));
+        Parts before = Parts.of(make, x -> { });
+        Parts after = Parts.of(make, x -> due(call, -reason, run.applyAsInt(x)));
+        Parts.dueSame(call, before, after, Parts.REFUSALS);
+        String[] counters = before.of(Parts.REFUSALS).split(" ");
+        counters[reason - 1] = String.valueOf(Integer.parseInt(counters[reason - 1]) + 1);
+        due(Parts.REFUSALS + " behind " + call, String.join(" ", counters) + " ", after.of(Parts.REFUSALS));
+    }
+
+    /** A call that only answers. */
+    static void dueNoChange(String call, Supplier<HomeworkBarter> make, Consumer<HomeworkBarter> run) {
+        Parts.dueSame(call, make, run);
     }
 
     static void tell(String message) {
