@@ -143,6 +143,42 @@ final class Check {
         return all.toString();
     }
 
+    /** What the methods tell that reckon with the state. */
+    static String answers(HomeworkBarter x) {
+        StringBuilder all = new StringBuilder();
+        int pupils = x.count(0);
+        for (int pupil = 0; pupil < pupils; pupil++) all.append(answersOf(x, pupil, (pupil + 1) % pupils));
+        for (int what = 0; what < 5; what++) all.append(" most ").append(x.most(what));
+        for (int place = 0; place <= pupils; place++) {
+            all.append(" ranked ").append(x.ranked(0, place)).append(' ').append(x.ranked(1, place));
+        }
+        for (int debt = 0; debt < x.count(8); debt++) all.append(" canPay ").append(x.canPay(debt));
+        all.append(" mostOf ").append(x.mostOf(0)).append(' ').append(x.mostOf(1));
+        all.append(" gap ").append(x.gap()).append(" meanMarks ").append(x.meanMarks());
+        for (int pupil = 0; pupil < pupils; pupil++) all.append(" freeIn ").append(x.freeIn(pupil));
+        for (int what = 0; what < 4; what++) {
+            all.append(" ifPassed ").append(x.ifPassed(1, what)).append(' ').append(x.ifPassed(9, what));
+        }
+        return all.toString();
+    }
+
+    private static String answersOf(HomeworkBarter x, int pupil, int other) {
+        StringBuilder all = new StringBuilder(" of ").append(pupil).append(':');
+        for (int subject = 0; subject < 2; subject++) {
+            int[] told = {x.makers(pupil, subject), x.madeBy(pupil, subject, other), x.needs(pupil, subject),
+                x.couldMake(pupil, subject), x.drownsIn(pupil, subject), x.owes(pupil, other, subject),
+                x.whyLend(pupil, other, subject, 1), x.why(pupil, subject)};
+            for (int one : told) all.append(' ').append(one);
+        }
+        int row = x.pupil(pupil, 0);
+        int seat = x.pupil(pupil, 1);
+        int[] told = {x.bench(row, seat), x.seers(pupil, other), x.nearTo(pupil, 0), x.nearTo(pupil, 1), x.debtOf(pupil, 0),
+            x.debtOf(pupil, 1), x.ifWeek(pupil, 0), x.ifWeek(pupil, 1), x.ifWeek(pupil, 2),
+            x.ifMoved(pupil, row, seat), x.whySwap(pupil, other, 1, 1), x.safestBench(pupil), x.safestPartner(pupil)};
+        for (int one : told) all.append(' ').append(one);
+        return all.append(' ').append(x.isNear(pupil, other)).append(' ').append(x.ownShare(pupil)).toString();
+    }
+
     static String refusals(HomeworkBarter x) {
         StringBuilder all = new StringBuilder();
         for (int reason = 1; reason <= 10; reason++) all.append(x.refusals(reason)).append(' ');

@@ -23,6 +23,7 @@ public final class EdgesActsTest {
         moveRefused();
         confessions();
         passes();
+        punishmentsOfSeveralWeeks();
         passRefused();
         oneReasonAlone();
         Check.end();
@@ -221,6 +222,9 @@ public final class EdgesActsTest {
         dueDone("lend of the other subject", 5, apart(deep + "work 0 verses 20;"), x -> x.lend(0, 2, 1, 5));
         dueRefused("lend to 100, too full", 3, apart(deep + "work 0 sums 20;work 2 sums 11;"), x -> x.lend(0, 2, 0, 10));
         dueRefused("lend to 100, too few", 4, apart(deep + "work 0 sums 9;"), x -> x.lend(0, 2, 0, 10));
+        String sums = "work 0 verses 20;lend 0 2 verses 20;swap 3 2 0 20;" + "pass 10;".repeat(7) + "work 0 verses 20;";
+        dueDone("lend of verses from 90 to 99", 99, apart(sums), x -> x.lend(0, 2, 1, 9));
+        dueRefused("lend of verses from 90 to 100", 9, apart(sums), x -> x.lend(0, 2, 1, 10));
         dueRefused("a 31st debt", 9, Fixtures::thirtyDebts, x -> x.lend(6, 0, 0, 1));
         dueRefused("a 31st debt of the other subject", 9, Fixtures::thirtyDebts, x -> x.lend(0, 1, 1, 1));
         dueRefused("a 31st debt of one without any", 9, Fixtures::thirtyDebts, x -> x.lend(0, 6, 0, 1));
@@ -388,6 +392,17 @@ public final class EdgesActsTest {
             Check.due("punishments", punished, one.tally(8));
             one.undo();
             Check.due("WEEK behind undo of all of them", 0, one.count(1));
+        }
+    }
+
+    /** Two are punished in the first week, and one in the third, by a verse more of one maker in each week. */
+    private static void punishmentsOfSeveralWeeks() {
+        int[] punished = {2, 2, 3, 3, 3, 3, 3, 3, 3, 3};
+        for (int weeks = 1; weeks <= 10; weeks++) {
+            HomeworkBarter x = Check.school("school 60 3 0 2;pupil 0 0 9 9;pupil 0 1 9 9;pupil 1 1 9 9 spy;pupil 5 5 9 9;"
+                + "pupil 5 3 9 9;", "work 3 verses 20;lend 3 4 verses 9;swap 0 1 0 0;swap 0 1 0 0;swap 0 1 0 0;");
+            Check.due("pass(" + weeks + ")", punished[weeks - 1], x.pass(weeks));
+            Check.due("punishments behind it", punished[weeks - 1], x.tally(8));
         }
     }
 

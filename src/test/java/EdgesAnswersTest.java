@@ -9,6 +9,7 @@ public final class EdgesAnswersTest {
         countsOfTwelve();
         tallies();
         talliesAddUp();
+        paymentsAddUp();
         numbersOfAPupil();
         placesOfPieces();
         piecesOfAMaker();
@@ -186,6 +187,21 @@ public final class EdgesAnswersTest {
         }
     }
 
+    /** "pieces that were paid back", of several debts and payments. */
+    private static void paymentsAddUp() {
+        HomeworkBarter x = Check.school(APART, "work 0 sums 9;work 1 verses 9;work 1 sums 5;lend 0 1 sums 6;lend 1 0 verses 2;");
+        int paid = 0;
+        for (int pieces = 1; pieces <= 3; pieces++) {
+            Check.due("payBack of " + pieces, 6 - pieces - paid, x.payBack(1, 0, 1, pieces));
+            paid += pieces;
+            Check.due("pieces that were paid back", paid, x.tally(4));
+        }
+        Check.due("payBack of one of two sums", 1, x.payBack(0, 1, 0, 1));
+        Check.due("pieces that were paid back", 7, x.tally(4));
+        x.undo();
+        Check.due("pieces that were paid back, behind undo", 6, x.tally(4));
+    }
+
     // ---- promises 10 to 17
 
     private static void numbersOfAPupil() {
@@ -342,6 +358,10 @@ public final class EdgesAnswersTest {
         x.swap(0, 1, 0, 0);
         dueWhy("PROOF 4 at LIMIT 3", x, 0, 204);
         dueWhy("ahead of what it lacks", x, 1, 204);
+        dueWhy("others would be punished: the spy lacks all", x, 2, 308);
+        x.work(3, 0, 6);
+        x.work(3, 1, 2);
+        dueWhy("others would be punished", x, 3, 552);
         HomeworkBarter y = Check.school(setup, "work 3 sums 9;work 3 verses 9;lend 3 1 sums 5;lend 3 1 verses 2;swap 0 1 0 0;");
         // The spy is near 1, and saw both loans and the swap: PROOF 3, and 1 + 1 by what it hands in.
         dueWhy("by what was seen and what is handed in", y, 1, 205);
@@ -382,6 +402,9 @@ public final class EdgesAnswersTest {
         x.pass(1);
         dueWhy("it owes 4 and has 3", x, 2, 401);
         dueWhy("to whom it is owed", x, 0, 560);
+        dueWhy("debt 0: it owes 1 and has none", x, 3, 400);
+        x.work(3, 1, 2);
+        dueWhy("debt 0: it owes 2 and has 2", x, 3, 558);
         HomeworkBarter y = Check.school(APART, ready + "lend 0 2 sums 2;lend 1 2 sums 3;lend 0 2 verses 1;work 2 verses 1;");
         dueWhy("2 and 3 verses with 2, and a sum with 5", y, 2, 402);
         y.work(2, 1, 1);
@@ -470,6 +493,20 @@ public final class EdgesAnswersTest {
     }
 
     private static void mostPieces() {
+        for (int subject = 0; subject < 2; subject++) {
+            HomeworkBarter one = Check.school(APART);
+            one.work(0, 1 - subject, 20);
+            Check.due("mostOf(" + subject + ") of none", 0, one.mostOf(subject));
+            one.work(1, subject, 3);
+            one.work(3, subject, 2);
+            Check.due("mostOf(" + subject + ") of 3 and 2", 1, one.mostOf(subject));
+            one.work(3, subject, 1);
+            Check.due("mostOf(" + subject + ") of 3 and 3", 1, one.mostOf(subject));
+            one.work(2, subject, 4);
+            Check.due("mostOf(" + subject + ") of 3, 4 and 3", 2, one.mostOf(subject));
+            one.work(0, subject, 4);
+            Check.due("mostOf(" + subject + ") of 4, 3, 4 and 3", 0, one.mostOf(subject));
+        }
         HomeworkBarter x = Check.school(APART);
         Check.due("mostOf(0) of none", 0, x.mostOf(0));
         x.work(3, 0, 2);

@@ -34,6 +34,7 @@ public final class EdgesExceptionsTest {
     public static void main(String[] args) {
         for (Place place : places()) dueOfPlace(place);
         for (Place place : severalWrong()) dueOutside(place);
+        seersOfOneAlone();
         pupilsOfOtherSchools();
         withoutDebts();
         thirtyDebts();
@@ -255,6 +256,15 @@ public final class EdgesExceptionsTest {
         addPupil(all, "payBack, other, pieces " + bad, (x, no) -> x.payBack(0, no, 0, bad));
         addPupil(all, "lend, both, all " + bad, (x, no) -> x.lend(no, no, bad, bad));
         addPupil(all, "payBack, both, all " + bad, (x, no) -> x.payBack(no, no, bad, bad));
+    }
+
+    /** "IllegalArgumentException if both are the same". */
+    private static void seersOfOneAlone() {
+        for (int pupil = 0; pupil < 4; pupil++) {
+            int one = pupil;
+            Check.dueThrowAndNoChange("seers(" + pupil + ", " + pupil + ")", ILLEGAL, EdgesExceptionsTest::lived,
+                x -> x.seers(one, one));
+        }
     }
 
     // ---- how many pupils and debts there are

@@ -253,6 +253,10 @@ public final class EdgesForesightTest {
         dueLoan("a debt to 100, and too full a satchel", Check.school(APART, deep + "work 1 sums 16;"), 3, 0, 1, 0, 5);
         dueLoan("a debt to 99, and a full satchel", Check.school(APART, deep + "work 1 sums 16;"), 0, 0, 1, 0, 4);
         dueLoan("a debt to 100, and too few pieces", Check.school(APART, deep + "swap 0 3 16 0;"), 4, 0, 1, 0, 5);
+        String deepInSums = "work 0 verses 20;lend 0 1 verses 20;swap 2 1 0 20;" + "pass 10;".repeat(7)
+            + "pass 5;work 0 verses 20;";
+        dueLoan("a debt in sums to 99", Check.school(APART, deepInSums), 0, 0, 1, 1, 4);
+        dueLoan("a debt in sums to 100", Check.school(APART, deepInSums), 9, 0, 1, 1, 5);
         dueLoan("a 31st debt", Fixtures.thirtyDebts(), 9, 6, 0, 0, 1);
         dueLoan("a 31st debt in the other subject", Fixtures.thirtyDebts(), 9, 0, 1, 1, 1);
         dueLoan("one of thirty debts", Fixtures.thirtyDebts(), 0, 0, 1, 0, 1);

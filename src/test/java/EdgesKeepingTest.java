@@ -265,6 +265,7 @@ public final class EdgesKeepingTest {
             Check.due("payBack", 1, x.payBack(x.debt(3, 0), x.debt(3, 1), x.debt(3, 2), x.debt(3, 3) - 1));
             x.restore(1);
         }, Parts.UNDO);
+        dueDebtsOfBothSubjects();
         HomeworkBarter thirty = Fixtures.thirtyDebts();
         thirty.save(0);
         for (int debt = 0; debt <= 20; debt += 4) {
@@ -276,6 +277,27 @@ public final class EdgesKeepingTest {
         Check.load(thirty, APART);
         thirty.restore(0);
         dueThirtyDebts("restore", thirty);
+    }
+
+    /** As the first debt is paid, each place among the debts is taken by one of the other SUBJECT, debtor and creditor. */
+    private static void dueDebtsOfBothSubjects() {
+        String script = "work 0 sums 9;work 0 verses 9;work 1 sums 9;work 1 verses 9;lend 0 1 sums 1;lend 1 0 verses 2;"
+            + "lend 0 1 sums 3;lend 1 3 sums 4;lend 0 2 verses 5;lend 1 2 sums 4;";
+        String state = Check.state(Check.school(APART, script));
+        HomeworkBarter x = Check.school(APART, script);
+        Check.due("payBack", 0, x.payBack(1, 0, 1, 4));
+        x.undo();
+        Check.due("state behind undo of a payment", state, Check.state(x));
+        HomeworkBarter y = Check.school(APART, script);
+        y.save(0);
+        y.payBack(1, 0, 1, 4);
+        y.payBack(0, 1, 0, 2);
+        y.restore(0);
+        Check.due("state restored behind two payments", state, Check.state(y));
+        HomeworkBarter z = Check.school(APART, script);
+        int owed = z.ifPassed(1, 1);
+        z.payBack(1, 0, 1, 4);
+        Check.due("pieces owed a week later", owed - 5, z.ifPassed(1, 1));
     }
 
     private static void dueThirtyDebts(String what, HomeworkBarter x) {
@@ -374,6 +396,10 @@ public final class EdgesKeepingTest {
             x.restore(0);
             Check.due("state restored twice, " + script, saved, Check.state(x));
         }
+        Parts.dueSame("load and restore", EdgesKeepingTest::lived, x -> {
+            Check.load(x, "school 10 1 9 9;pupil 5 5 1 1 spy;pupil 4 4 1 1;");
+            x.restore(1);
+        }, Parts.UNDO, Parts.TEXT, Parts.ERROR);
         HomeworkBarter other = lived();
         other.save(0);
         Check.load(other, "school 10 1 9 9;pupil 5 5 1 1 spy;pupil 4 4 1 1;");

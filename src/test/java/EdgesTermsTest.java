@@ -429,6 +429,14 @@ public final class EdgesTermsTest {
         }
         Check.due("nine verses of nine makers", 0, y.ifWeek(11, 1));
         Check.due("makers", 11, y.makers(11, 1));
+        HomeworkBarter last = Check.school(setup.toString());
+        for (int i = 11; i > 0; i--) {
+            last.work(i, 1, 2);
+            last.lend(i, 0, 1, i > 8 ? 2 : 1);
+        }
+        Check.due("two verses each of the makers 11, 10 and 9, and three more", 3, last.ifWeek(0, 1));
+        last.pass(1);
+        Check.due("PROOF of them", 3, last.pupil(0, 6));
         HomeworkBarter own = Check.school("school 60 20 0 9;pupil 0 0 9 9;pupil 0 5 9 9;", "work 0 verses 9;");
         Check.due("nine of its own", 0, own.ifWeek(0, 1));
         HomeworkBarter twice = Check.school("school 60 20 0 2;pupil 0 0 9 9;pupil 0 5 9 9;", "work 0 verses 9;"

@@ -192,6 +192,10 @@ public final class EdgesTextsTest {
             dueWrongScript("pass 1;" + one + "pass 1;", 1, 7);
             dueWrongScript("pass 1;pass 1;" + one, 1, 14);
             if (sign >= '0' && sign <= '9') continue;
+            boolean isLetter = sign >= 'a' && sign <= 'z';
+            dueWrongSetup("school" + one + " 10 1 0 0;" + TWO, 1, isLetter ? 0 : 6);
+            dueWrongScript("pass" + one + " 1;", 1, isLetter ? 0 : 4);
+            dueWrongScript("work 0 sums" + one + "1;", 1, isLetter ? 7 : 11);
             dueWrongSetup("school " + one + "10 1 0 0;" + TWO, 1, 7);
             dueWrongScript("pass " + one + "1;", 1, 5);
             if (sign == ';') continue;
@@ -515,18 +519,21 @@ public final class EdgesTextsTest {
         dueLoadForgetsWhatWasTried();
     }
 
-    /** What ifPassed and freeIn tried with the school of before is not in the next one. */
+    /** What ifPassed tried with the school of before, with PROOF or detained, is not in the next one. */
     private static void dueLoadForgetsWhatWasTried() {
-        String setup = "school 60 20 1 1;pupil 0 0 9 9;pupil 0 1 9 9;pupil 1 1 9 9 spy;";
-        String fresh = Check.state(Check.school(setup));
-        for (int weeks = 0; weeks < 3; weeks++) {
-            HomeworkBarter x = Check.school(setup, "work 0 sums 20;work 1 verses 20;lend 0 1 sums 9;swap 0 1 5 5;");
-            x.ifPassed(weeks, 0);
-            Check.due("load", 3, Check.load(x, setup));
-            Check.due("state behind load, and ifPassed(" + weeks + ", 0) ahead", fresh, Check.state(x));
-            x.ifPassed(0, 1);
-            Check.due("load with an error", -1, Check.load(x, "school 10 20 3 3;pupil 5 5 1 1 spy;pupil 6"));
-            Check.due("state behind it", fresh, Check.state(x));
+        for (int limit : new int[] {1, 20}) {
+            String setup = "school 60 " + limit + " 1 1;pupil 0 0 9 9;pupil 0 1 9 9;pupil 1 1 9 9 spy;";
+            String fresh = Check.state(Check.school(setup));
+            for (int weeks = 0; weeks < 4; weeks++) {
+                HomeworkBarter x = Check.school(setup, "work 0 sums 20;work 1 verses 20;lend 0 1 sums 9;swap 0 1 5 5;"
+                    + "swap 0 1 0 0;swap 0 1 0 0;swap 0 1 0 0;");
+                x.ifPassed(weeks, 0);
+                Check.due("load", 3, Check.load(x, setup));
+                Check.due("state behind load, and ifPassed(" + weeks + ", 0) ahead", fresh, Check.state(x));
+                x.ifPassed(0, 1);
+                Check.due("load with an error", -1, Check.load(x, "school 10 20 3 3;pupil 5 5 1 1 spy;pupil 6"));
+                Check.due("state behind it", fresh, Check.state(x));
+            }
         }
     }
 
@@ -580,6 +587,9 @@ public final class EdgesTextsTest {
             Check.due("errorCode behind it", 0, x.errorCode());
         }
         Check.due("play of commands with the last pupil", 2, Check.play(lived(), "work 3 sums 1;swap 3 2 0 0;"));
+        HomeworkBarter x = lived();
+        Check.due("load with an error in a school of two", -1, Check.load(x, WIDE + "pupil"));
+        Check.due("play of commands with the last pupil behind it", 2, Check.play(x, "work 3 sums 1;swap 2 3 0 0;"));
     }
 
     /** "The commands are the methods work(), swap(), lend(), payBack(), move(), confess(), pass()". */

@@ -40,7 +40,7 @@ final class Parts {
         };
         Parts parts = new Parts();
         parts.tellWithoutHarm(ready.get());
-        parts.told.put(STATE, Check.state(ready.get()));
+        parts.told.put(STATE, Check.state(ready.get()) + Check.answers(ready.get()));
         parts.told.put(UNDO, undoOne(ready.get()) + undoAll(ready.get()));
         parts.told.put(SLOTS, slot(ready.get(), 0) + slot(ready.get(), 1));
         return parts;
