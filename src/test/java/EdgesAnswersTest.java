@@ -388,6 +388,13 @@ public final class EdgesAnswersTest {
         dueWhy("DUE 0", Check.school(APART), 0, 560);
         dueWhy("DUE 9 and 9", Check.school("school 60 20 9 9;pupil 0 0 9 9;pupil 0 5 9 9;"), 1, 318);
         dueWhy("ahead of what it owes", Check.school(setup, "work 0 sums 9;lend 0 1 sums 1;"), 1, 304);
+        HomeworkBarter marked = Check.school(setup, "pass 2;work 0 sums 2;work 0 verses 3;work 1 sums 1;");
+        Check.due("MARKS of two weeks", 10, marked.pupil(0, 7));
+        dueWhy("it has MARKS, and would get none", marked, 0, 555);
+        dueWhy("it has MARKS, and would get some", marked, 1, 304);
+        HomeworkBarter seen = Check.school("school 60 20 1 0;pupil 0 0 9 9;pupil 0 1 9 9;pupil 1 1 9 9 spy;",
+            "swap 0 1 0 0;swap 0 1 0 0;");
+        dueWhy("it has more PROOF than it would get MARKS", seen, 0, 301);
     }
 
     /** "4 it owes pieces that it has not"; "the lowest debt of it that is of more pieces than its satchel has". */
@@ -413,6 +420,11 @@ public final class EdgesAnswersTest {
         dueWhy("4 sums with none, though it has verses", z, 2, 401);
         z.work(2, 0, 4);
         dueWhy("4 sums with 4", z, 2, 547);
+        HomeworkBarter due = Check.school("school 60 20 0 2;pupil 0 0 9 9;pupil 0 5 9 9;", "work 0 sums 9;lend 0 1 sums 3;"
+            + "work 1 verses 3;");
+        dueWhy("it owes 3 verses and has 3, of which 2 are due", due, 1, 557);
+        due.lend(0, 1, 0, 1);
+        dueWhy("it owes 4 verses and has 3", due, 1, 400);
         HomeworkBarter thirty = Fixtures.thirtyDebts();
         dueWhy("it owes one verse each and has seven", thirty, 4, 546);
         thirty.lend(4, 6, 1, 7);

@@ -146,27 +146,8 @@ public final class EdgesTermsTest {
 
     /** "pieces that go out of it are the eldest ones of it [...] and come into another SATCHEL in this order". */
     private static void eldestFirst() {
-        for (int subject = 0; subject < 2; subject++) {
-            String kind = subject == 0 ? "sums" : "verses";
-            String ready = "work 1 " + kind + " 1;work 2 " + kind + " 2;work 3 " + kind + " 1;lend 1 0 " + kind
-                + " 1;lend 2 0 " + kind + " 2;lend 3 0 " + kind + " 1;work 0 " + kind + " 1;work 3 " + kind + " 1;";
-            int zero = subject == 0 ? 0 : 3;
-            // 0 has those of 1, 2, 2, 3 and 0; 3 has one of its own.
-            HomeworkBarter x = Check.school(APART, ready);
-            Check.due("swap", 0, x.swap(zero, 3 - zero, subject == 0 ? 3 : 0, subject == 0 ? 0 : 3));
-            dueMakers("swap: what stays", x, 0, subject, 3, 0);
-            dueMakers("swap: what comes behind", x, 3, subject, 3, 1, 2, 2);
-            HomeworkBarter y = Check.school(APART, ready);
-            Check.due("lend", 4, y.lend(0, 3, subject, 4));
-            dueMakers("lend: what stays", y, 0, subject, 0);
-            dueMakers("lend: what comes behind", y, 3, subject, 3, 1, 2, 2, 3);
-            // Three more that 0 lends 3 in the other subject are owed in this one; 3 pays with its eldest.
-            HomeworkBarter z = Check.school(APART, ready + "lend 0 3 " + kind + " 2;work 0 " + (subject == 0 ? "verses"
-                : "sums") + " 3;lend 0 3 " + (subject == 0 ? "verses" : "sums") + " 3;");
-            Check.due("payBack", 1, z.payBack(3, 0, subject, 2));
-            dueMakers("payBack: what stays", z, 3, subject, 2);
-            dueMakers("payBack: what comes behind", z, 0, subject, 2, 3, 0, 3, 1);
-        }
+        eldestOfOneSubject(0, "sums", "verses");
+        eldestOfOneSubject(1, "verses", "sums");
         HomeworkBarter w = Check.school("school 60 20 2 3;pupil 0 0 9 9;pupil 0 5 9 9;", "work 1 sums 1;work 1 verses 2;"
             + "work 0 sums 3;work 0 verses 3;lend 1 0 sums 1;lend 1 0 verses 1;swap 0 1 3 0;swap 1 0 0 1;swap 1 0 2 0;");
         dueMakers("ahead", w, 0, 0, 1, 0, 0);
@@ -177,6 +158,27 @@ public final class EdgesTermsTest {
         dueMakers("a full satchel, one after the other", full, 3, 0, 0, 0, 0, 0, 0, 0, 0, 1, 1, 1, 1, 1, 1, 0, 0, 0, 0,
             0, 0, 0);
         dueMakers("and an empty one", full, 2, 0);
+    }
+
+    /** 0 has pieces of 1, 2, 2, 3 and 0, and 3 has one of its own. */
+    private static void eldestOfOneSubject(int subject, String kind, String otherKind) {
+        String ready = "work 1 KIND 1;work 2 KIND 2;work 3 KIND 1;lend 1 0 KIND 1;lend 2 0 KIND 2;lend 3 0 KIND 1;"
+            + "work 0 KIND 1;work 3 KIND 1;";
+        ready = ready.replace("KIND", kind);
+        HomeworkBarter x = Check.school(APART, ready);
+        Check.due("swap", 0, subject == 0 ? x.swap(0, 3, 3, 0) : x.swap(3, 0, 0, 3));
+        dueMakers("swap: what stays", x, 0, subject, 3, 0);
+        dueMakers("swap: what comes behind", x, 3, subject, 3, 1, 2, 2);
+        HomeworkBarter y = Check.school(APART, ready);
+        Check.due("lend", 4, y.lend(0, 3, subject, 4));
+        dueMakers("lend: what stays", y, 0, subject, 0);
+        dueMakers("lend: what comes behind", y, 3, subject, 3, 1, 2, 2, 3);
+        // For three pieces of the other subject that 0 lends it, 3 owes three of this one, and pays with its eldest.
+        HomeworkBarter z = Check.school(APART, ready + "lend 0 3 " + kind + " 2;work 0 " + otherKind + " 3;lend 0 3 "
+            + otherKind + " 3;");
+        Check.due("payBack", 1, z.payBack(3, 0, subject, 2));
+        dueMakers("payBack: what stays", z, 3, subject, 2);
+        dueMakers("payBack: what comes behind", z, 0, subject, 2, 3, 0, 3, 1);
     }
 
     private static void dueMakers(String what, HomeworkBarter x, int pupil, int subject, int... makers) {
@@ -300,19 +302,21 @@ public final class EdgesTermsTest {
     private static void whatIsSeen() {
         HomeworkBarter x = Check.school("school 60 20 0 0;pupil 0 0 9 9;pupil 0 1 9 9;pupil 1 1 9 9 spy;",
             "work 0 sums 3;work 1 verses 3;");
-        int[] proof = {0, 0, 0};
-        for (int act = 1; act <= 5; act++) {
-            int answer = act == 1 ? x.swap(0, 1, 0, 0) : act == 2 ? x.swap(1, 0, 0, 0) : act == 3 ? x.lend(0, 1, 0, 2)
-                : act == 4 ? x.payBack(1, 0, 1, 1) : x.payBack(1, 0, 1, 1);
-            Check.due("answer of barter " + act, act <= 2 ? 1 : act == 3 ? 2 : 5 - act, answer);
-            proof[0]++;
-            for (int pupil = 0; pupil < 3; pupil++) {
-                Check.due("PROOF behind barter " + act, pupil < 2 ? act : 0, x.pupil(pupil, 6));
-            }
-            Check.due("sights", act, x.tally(7));
-            Check.due("WITNESSES", 1, x.pupil(0, 13));
-            Check.due("witness", 2, x.witness(1, 0));
+        dueSeenAgain("swap", 1, x.swap(0, 1, 0, 0), 1, x);
+        dueSeenAgain("swap the other way round", 1, x.swap(1, 0, 0, 0), 2, x);
+        dueSeenAgain("lend", 2, x.lend(0, 1, 0, 2), 3, x);
+        dueSeenAgain("payBack of a part", 1, x.payBack(1, 0, 1, 1), 4, x);
+        dueSeenAgain("payBack of the rest", 0, x.payBack(1, 0, 1, 1), 5, x);
+    }
+
+    private static void dueSeenAgain(String act, int due, int answer, int times, HomeworkBarter x) {
+        Check.due(act, due, answer);
+        for (int pupil = 0; pupil < 3; pupil++) {
+            Check.due("PROOF behind " + act, pupil < 2 ? times : 0, x.pupil(pupil, 6));
+            Check.due("WITNESSES behind " + act, pupil < 2 ? 1 : 0, x.pupil(pupil, 13));
+            Check.due("witness behind " + act, pupil < 2 ? 2 : -1, x.witness(pupil, 0));
         }
+        Check.due("sights behind " + act, times, x.tally(7));
     }
 
     private static void whatIsNotSeen() {
